@@ -371,8 +371,12 @@ public final class HillBends {
         if (what == 0) {
             return Integer.bitCount(candidates);
         }
-        // Candidate 0 is to have no rule, so that rule r is candidate r + 1.
-        return candidates == 0 ? -2 : Integer.numberOfTrailingZeros(candidates) - 1;
+        for (int rule = NONE; rule < ruleCount; rule++) {
+            if ((candidates >> rule + 1 & 1) != 0) {
+                return rule;
+            }
+        }
+        return -2;
     }
 
     public int look(int n, int what) {
@@ -895,7 +899,6 @@ public final class HillBends {
                 andWaits = tape.isWord(at, Tape.AND);
                 if (orWaits && !andWaits) {
                     emit(JOIN_OR);
-                    orWaits = false;
                 }
                 boolean orComes = tape.isWord(at, Tape.OR);
                 orWaits = orWaits || orComes;
@@ -969,7 +972,6 @@ public final class HillBends {
                 inTerm = sign == '*' || sign == '/' || sign == '%' ? sign : 0;
                 if (inSum != 0 && inTerm == 0) {
                     emit(inSum);
-                    inSum = 0;
                 }
                 boolean adds = sign == '+' || sign == '-';
                 inSum = adds ? sign : inSum;
@@ -1633,7 +1635,8 @@ public final class HillBends {
                 }
                 return;
             }
-            if (score + many * mostGainFrom(hill, sort) <= bestScore) {
+            // A thing weighs 1 at least, so that the room bounds how many there can be, too.
+            if (score + Math.min(many, room) * mostGainFrom(hill, sort) <= bestScore) {
                 return;
             }
             int weight = hill.weight[sort];

@@ -534,6 +534,23 @@ public final class AskTests {
         Checks.is("again", x.back(1), 1);
         Checks.is("told again", x.leaves(1, 0), 3);
         backToNoHill();
+        backToNotes();
+    }
+
+    private static void backToNotes() {
+        HillBends x = onRules();
+        x.note(2, 2, 0);
+        x.image(0);
+        x.note(NONE, 0, 0);
+        x.note(0, 1, 2);
+        Checks.is("no rule is so", x.ruled(0), 0);
+        x.back(0);
+        Checks.is("the note of old", x.ruled(0), 1);
+        Checks.is("by it", x.ruled(1), 1);
+        x.note(0, 0, 0);
+        Checks.is("and another one", x.count(10), 2);
+        x.back(0);
+        Checks.is("the image stays as it was made", x.count(10), 1);
     }
 
     private static void backToNoHill() {

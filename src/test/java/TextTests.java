@@ -251,6 +251,14 @@ public final class TextTests {
         Checks.is("the tape stays at a fault", y.count(13), 6);
         y.end(5);
         Checks.is("mended", y.rule(), 1);
+        for (int i = 0; i < 9; i++) {
+            Checks.is("a long fault", Checks.rule(y, "ask 1" + "+1".repeat(60)), Checks.fault(124, 3));
+            Checks.is("a fault of clauses", Checks.rule(y, "ask 1;ask 2;ask 3;ask 4;"), Checks.fault(24, 0));
+        }
+        Checks.is("and none", Checks.rule(y, "ask 0-1 if bend=0;ask 1" + "+1".repeat(50)), 2);
+        Checks.hill(y, Checks.SMALL);
+        y.force(2);
+        Checks.is("by it", y.night(), 0b001);
     }
 
     private static void ruleFault(String text, int place, int kind) {
