@@ -1644,7 +1644,6 @@ public final class HillBends {
                 row[sort] = n;
                 pickFrom(hill, sort + 1, room - n * weight, many - n, score + n * gain[sort]);
             }
-            row[sort] = 0;
         }
 
         private int mostGainFrom(Hill hill, int from) {

@@ -298,6 +298,10 @@ public final class AskTests {
         y.leaves(0, 1);
         y.leaves(1, 2);
         gifts("three rows", y, 3, 0b11, 0b11, 0b11, 0, 1, 1);
+        HillBends four = Checks.on("hill 9;sort 1 1 1;sort 1 1 1;bend 0 1;bend 0 1;bend 0 1;bend 0 1");
+        four.leaves(0, 2);
+        four.leaves(1, 2);
+        gifts("six rows", four, 6, 0b11, 0b11, 0b11, 0b11, 0, 0, 1, 1);
         HillBends z = Checks.on("hill 9;sort 1 1 1" + ";bend 0 0".repeat(8));
         z.leaves(0, 8);
         gifts("alike ones count once", z, 1, 1, 1, 1, 1, 1, 1, 1, 1, 0, 0, 0, 0, 0, 0, 0, 0);
