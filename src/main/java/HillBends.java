@@ -1510,8 +1510,8 @@ public final class HillBends {
             bagPrice = 0;
             int best = 0;
             for (int bag = 0; bag < bags; bag++) {
-                int price = priceIfBuyable(hill, now, pilgrim, bag);
-                boolean better = byBag[bag] > bagWays || byBag[bag] == bagWays && price < bagPrice;
+                int price = byBag[bag] >= bagWays ? priceIfBuyable(hill, now, pilgrim, bag) : NONE;
+                boolean better = byBag[bag] > bagWays || price < bagPrice;
                 if (price >= 0 && better) {
                     bagWays = byBag[bag];
                     bagPrice = price;
