@@ -74,10 +74,11 @@ public final class HillBends {
             return NONE;
         }
         int fault = rules[ruleCount].read(tape);
+        // A text with a fault is gone, too: that all stays is said of a hill alone.
+        tape.size = 0;
         if (fault != 0) {
             return -2 - fault;
         }
-        tape.size = 0;
         ruleCount++;
         return ruleCount - 1;
     }

@@ -538,12 +538,13 @@ final class HillModel {
         if (rules.size() == 6) {
             return NONE;
         }
+        String text = tape;
+        tape = "";
         try {
-            rules.add(new Reader(tape).rule());
+            rules.add(new Reader(text).rule());
         } catch (Fault f) {
             return -2 - f.code;
         }
-        tape = "";
         return rules.size() - 1;
     }
 

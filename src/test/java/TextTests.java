@@ -141,6 +141,7 @@ public final class TextTests {
         HillBends x = new HillBends();
         Checks.is("hill of '" + text + "'", Checks.hill(x, text), Checks.fault(place, kind));
         Checks.is("no hill of '" + text + "'", x.rich(0), NONE);
+        Checks.is("the tape of '" + text + "' stays", x.count(13), text.length());
     }
 
     private static void hillFaultsOfKind0() {
@@ -245,12 +246,13 @@ public final class TextTests {
         Checks.is("nothing happens", x.count(13), 5);
         Checks.is("six are there", x.count(4), 6);
         Checks.is("six, and a fault", Checks.rule(x, "ask"), NONE);
+        Checks.is("nothing happens at a fault, too", x.count(13), 3);
         HillBends y = new HillBends();
         Checks.is("a rule needs no hill", Checks.rule(y, "ask 1"), 0);
         Checks.is("fault", Checks.rule(y, "ask 1x"), Checks.fault(5, 0));
-        Checks.is("the tape stays at a fault", y.count(13), 6);
-        y.end(5);
-        Checks.is("mended", y.rule(), 1);
+        Checks.is("the tape is empty at a fault", y.count(13), 0);
+        Checks.is("nothing to be mended", y.end(5), NONE);
+        Checks.is("behind a fault", Checks.rule(y, "ask 1"), 1);
         for (int i = 0; i < 9; i++) {
             Checks.is("a long fault", Checks.rule(y, "ask 1" + "+1".repeat(60)), Checks.fault(124, 3));
             Checks.is("a fault of clauses", Checks.rule(y, "ask 1;ask 2;ask 3;ask 4;"), Checks.fault(24, 0));
@@ -265,6 +267,8 @@ public final class TextTests {
         HillBends x = new HillBends();
         Checks.is("rule of '" + text + "'", Checks.rule(x, text), Checks.fault(place, kind));
         Checks.is("no rule of '" + text + "'", x.count(4), 0);
+        Checks.is("no tape behind '" + text + "'", x.count(13), 0);
+        Checks.is("an empty text", x.rule(), Checks.fault(0, 0));
     }
 
     private static void ruleFaultsOfKinds0And1() {
