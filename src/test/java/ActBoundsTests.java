@@ -31,6 +31,7 @@ public final class ActBoundsTests {
         sellTo999();
         hand();
         nineOfASort();
+        theLastOfEach();
         undo();
         undoEachAct();
         undoOf20();
@@ -48,7 +49,8 @@ public final class ActBoundsTests {
     // ---- what is there
 
     private static void pilgrim() {
-        Bounds.promise(7, "4: WEIGHT of what they have, 5 to 9: how many they have of the SORT less 5 (0, if there is none such).");
+        Bounds.promise(7, "Of a PILGRIM what 0: HEIGHT, 1: MONEY, 2: LEFT, 3: TAKEN, 4: WEIGHT of what they have, 5 to 9: how "
+                + "many they have of the SORT less 5 (0, if there is none such).");
         HillBends x = Checks.on("hill 40;sort 9 0 1;sort 1 0 1;pilgrim 0;pilgrim 99;pilgrim 1;pilgrim 2;has 1 0 4;has 1 1 4;has 3 1 1");
         int[][] due = {{0, 0, 0, 0, 0, 0, 0, 0, 0, 0}, {0, 99, 0, 0, 40, 4, 4, 0, 0, 0},
             {0, 1, 0, 0, 0, 0, 0, 0, 0, 0}, {0, 2, 0, 0, 1, 0, 1, 0, 0, 0}};
@@ -75,7 +77,8 @@ public final class ActBoundsTests {
     }
 
     private static void bend() {
-        Bounds.promise(8, "2: what it ASKS for, 3 to 7: how many lie there of the SORT less 3 (0 likewise).");
+        Bounds.promise(8, "Of a BEND what 0: FIRST, 1: SECOND, 2: what it ASKS for, 3 to 7: how many lie there of the SORT less "
+                + "3 (0 likewise).");
         HillBends x = Checks.on("hill 9" + ";sort 1 0 1".repeat(5) + ";bend 4 3" + ";bend 0 0".repeat(7) + ";heap 0 4 9;heap 7 0 1");
         int[] lowest = {4, 3, 4, 0, 0, 0, 0, 9};
         int[] highest = {0, 0, 0, 1, 0, 0, 0, 0};
@@ -199,10 +202,14 @@ public final class ActBoundsTests {
         asksBy(Checks.on(text), "passed = 0", 0b11);
         asksBy(Checks.on(text), "here = 4", 0b01);
         asksBy(climbed("hill 9;sort 1 0 1;sort 1 0 1;bend 0 1;pilgrim 0;has 0 0 1", 1), "passed = 1 and here = 0", 0b1);
-        Bounds.term("ones (of its FIRST in its heap), twos (of its SECOND there), heap (all that lies there)");
+        Bounds.term("bend, first (its FIRST), second, asks (the SORT it ASKS for), night, ones (of its FIRST in its heap), "
+                + "twos (of its SECOND there), heap (all that lies there),");
         HillBends y = Checks.on("hill 9" + ";sort 1 0 1".repeat(5) + ";bend 3 4;bend 2 1;heap 0 3 9;heap 0 4 8;heap 0 0 7;heap 1 2 5");
         asksBy(y, "ones = 9 and twos = 8 and heap = 24 or ones = 5 and twos = 0 and heap = 5", 0b11);
         asksBy(y, "first = 3 and second = 4 and asks = 3 or first = 2 and second = 1 and asks = 2", 0b11);
+        y.force(NONE);
+        y.night();
+        asksBy(y, "bend = 0 and asks = 4 and night = 1 or bend = 1 and asks = 1 and night = 1", 0b11);
     }
 
     /** Which bends ask for their first behind a night, if those do for which a fact holds; the night is undone. */
@@ -216,7 +223,8 @@ public final class ActBoundsTests {
     // ---- climbing and coming down
 
     private static void heights() {
-        Bounds.term("(0: at the foot); just below BEND HEIGHT they stand, and at the top, if there is none.");
+        Bounds.term("A PILGRIM's HEIGHT is how many BENDS they have behind them below (0: at the foot); just below BEND HEIGHT "
+                + "they stand, and at the top, if there is none.");
         HillBends x = climbed(ONE, 0);
         Bounds.is("at the foot", x.pilgrim(0, 0), 0);
         Bounds.is("nobody is at the top", x.count(8), 0);
@@ -257,6 +265,11 @@ public final class ActBoundsTests {
 
     private static void climb() {
         Bounds.promise(11, "CLIMB: HEIGHT; NONE, and nothing happens, without these.");
+        for (int pilgrim : new int[] {2, 3, 4, FAR, -1, FAR_BELOW}) {
+            Bounds.refused("of two, " + pilgrim, Bounds::midway, x -> x.climb(pilgrim), NONE);
+        }
+        Bounds.term("CLIMB (a PILGRIM not at the top, that has a thing of the SORT the BEND ASKS for, leaves it in its heap: "
+                + "HEIGHT 1 more, LEFT 1 more)");
         Bounds.is("the lowest", Checks.on(ONE).climb(0), 1);
         Bounds.is("with the last thing", climbed("hill 9;sort 1 1 1;bend 0 0;bend 0 0;pilgrim 5;has 0 0 2", 1).climb(0), 2);
         Bounds.refused("at the top", () -> climbed(ONE, 1), x -> x.climb(0), NONE);
@@ -270,9 +283,6 @@ public final class ActBoundsTests {
             return x;
         }, x -> x.climb(0), NONE);
         Bounds.refused("another one has it", () -> Checks.on("hill 9;sort 1 1 1;bend 0 0;pilgrim 0;pilgrim 0;has 1 0 1"), x -> x.climb(0), NONE);
-        for (int pilgrim : new int[] {2, 3, 4, FAR, -1, FAR_BELOW}) {
-            Bounds.refused("of two, " + pilgrim, Bounds::midway, x -> x.climb(pilgrim), NONE);
-        }
         HillBends y = climbed("hill 9;sort 1 1 1;sort 1 1 1;bend 0 1;pilgrim 5;has 0 0 2;has 0 1 2", 1);
         Bounds.is("one less", y.pilgrim(0, 5), 1);
         Bounds.is("none less of the other", y.pilgrim(0, 6), 2);
@@ -283,15 +293,16 @@ public final class ActBoundsTests {
 
     private static void down() {
         Bounds.promise(12, "DOWN: HEIGHT; NONE, and nothing happens, without these.");
+        for (int pilgrim : new int[] {2, 4, FAR, -1, FAR_BELOW}) {
+            Bounds.refused("of two, " + pilgrim, Bounds::midway, x -> x.down(pilgrim), NONE);
+        }
+        Bounds.term("DOWN (HEIGHT 1 less, not from the foot)");
         Bounds.refused("at the foot", () -> Checks.on(ONE), x -> x.down(0), NONE);
         Bounds.refused("at the foot again", () -> {
             HillBends x = climbed(ONE, 1);
             x.down(0);
             return x;
         }, x -> x.down(0), NONE);
-        for (int pilgrim : new int[] {2, 4, FAR, -1, FAR_BELOW}) {
-            Bounds.refused("of two, " + pilgrim, Bounds::midway, x -> x.down(pilgrim), NONE);
-        }
         HillBends y = climbed("hill 9;sort 1 1 1" + ";bend 0 0".repeat(8) + ";pilgrim 9;has 0 0 4;has 0 0 4", 8);
         for (int height = 7; height >= 0; height--) {
             Bounds.is("down", y.down(0), height);
@@ -374,6 +385,13 @@ public final class ActBoundsTests {
 
     private static void buy() {
         Bounds.promise(14, "BUY: MONEY they have; NONE, and nothing happens, without these.");
+        for (int sort : new int[] {3, 4, 5, FAR, -1, FAR_BELOW}) {
+            Bounds.refused("of three sorts, " + sort, Bounds::midway, x -> x.buy(1, sort), NONE);
+        }
+        for (int pilgrim : new int[] {2, 4, FAR, -1, FAR_BELOW}) {
+            Bounds.refused("of two, " + pilgrim, Bounds::midway, x -> x.buy(pilgrim, 2), NONE);
+        }
+        Bounds.term("BUY (at the foot, for its PRICE, if they can carry it)");
         Bounds.is("for all money", Checks.on("hill 9;sort 1 1 30;pilgrim 30").buy(0, 0), 0);
         Bounds.refused("one short", () -> Checks.on("hill 9;sort 1 1 30;pilgrim 29"), x -> x.buy(0, 0), NONE);
         Bounds.refused("without money", () -> Checks.on("hill 9;sort 1 1 1;pilgrim 0"), x -> x.buy(0, 0), NONE);
@@ -386,12 +404,6 @@ public final class ActBoundsTests {
         y.down(0);
         Bounds.is("at the foot again", y.buy(0, 0), 4);
         Bounds.is("at the foot that is the top", Checks.on("hill 9;sort 1 1 1;pilgrim 9").buy(0, 0), 8);
-        for (int sort : new int[] {3, 4, 5, FAR, -1, FAR_BELOW}) {
-            Bounds.refused("of three sorts, " + sort, Bounds::midway, x -> x.buy(1, sort), NONE);
-        }
-        for (int pilgrim : new int[] {2, 4, FAR, -1, FAR_BELOW}) {
-            Bounds.refused("of two, " + pilgrim, Bounds::midway, x -> x.buy(pilgrim, 2), NONE);
-        }
     }
 
     private static void sell() {
@@ -451,15 +463,6 @@ public final class ActBoundsTests {
     private static void hand() {
         Bounds.promise(16, "HAND: how many the other one has; NONE, and nothing happens, without these (unlike).");
         String text = "hill 5;sort 2 1 1;sort 3 1 1;bend 0 0;pilgrim 0;pilgrim 0;has 0 0 1;has 0 1 1;has 1 0 1";
-        Bounds.is("as heavy as can be", Checks.on(text).hand(0, 1, 1), 1);
-        Bounds.refused("too heavy by one", () -> Checks.on(text.replace("hill 5", "hill 4").replace("has 0 0 1;", "")), x -> x.hand(0, 1, 1), NONE);
-        Bounds.refused("none of it", () -> Checks.on(text), x -> x.hand(1, 0, 1), NONE);
-        Bounds.refused("to oneself", () -> Checks.on(text), x -> x.hand(0, 0, 0), NONE);
-        Bounds.refused("from above", () -> climbed(text, 1), x -> x.hand(0, 1, 1), NONE);
-        Bounds.refused("from below", () -> climbed(text, 1), x -> x.hand(1, 0, 0), NONE);
-        HillBends above = climbed(text, 1);
-        above.climb(1);
-        Bounds.is("both above", above.hand(0, 1, 1), 1);
         for (int sort : new int[] {3, 4, 5, FAR, -1, FAR_BELOW}) {
             Bounds.refused("of three sorts, " + sort, Checks::onSmall, x -> x.hand(1, 0, sort), NONE);
         }
@@ -467,6 +470,18 @@ public final class ActBoundsTests {
             Bounds.refused("of two, to " + other, Checks::onSmall, x -> x.hand(1, other, 2), NONE);
             Bounds.refused("of two, from " + other, Checks::onSmall, x -> x.hand(other, 1, 2), NONE);
         }
+        Bounds.refused("to oneself", () -> Checks.on(text), x -> x.hand(0, 0, 0), NONE);
+        Bounds.refused("to oneself, though it could be carried", Checks::onSmall, x -> x.hand(0, 0, 0), NONE);
+        Bounds.term("HAND (a thing from one to another one of the same HEIGHT, who can carry it).");
+        Bounds.is("as heavy as can be", Checks.on(text).hand(0, 1, 1), 1);
+        Bounds.refused("too heavy by one", () -> Checks.on(text.replace("hill 5", "hill 4").replace("has 0 0 1;", "")), x -> x.hand(0, 1, 1), NONE);
+        Bounds.refused("none of it", () -> Checks.on(text), x -> x.hand(1, 0, 1), NONE);
+        Bounds.refused("none of it, though it could be carried", () -> Checks.on(text.replace("hill 5", "hill 40")), x -> x.hand(1, 0, 1), NONE);
+        Bounds.refused("from above", () -> climbed(text, 1), x -> x.hand(0, 1, 1), NONE);
+        Bounds.refused("from below", () -> climbed(text, 1), x -> x.hand(1, 0, 0), NONE);
+        HillBends above = climbed(text, 1);
+        above.climb(1);
+        Bounds.is("both above", above.hand(0, 1, 1), 1);
     }
 
     private static void nineOfASort() {
@@ -479,6 +494,39 @@ public final class ActBoundsTests {
         HillBends y = Checks.on(eight + ";has 0 0 1");
         Bounds.is("one of nine is handed on", y.hand(0, 1, 0), 3);
         Bounds.is("and a ninth bought", y.buy(0, 0), 8);
+    }
+
+    /** Pilgrim 3, sort 4 and bends up to 7 do as the first ones do, and leave these alone. */
+    private static void theLastOfEach() {
+        Bounds.term("SORTS 0 to 4, BENDS 0 to 7, PILGRIMS 0 to 3, in the order told;");
+        String text = "hill 40;sort 1 1 4;sort 1 1 4;sort 1 1 4;sort 1 1 4;sort 2 1 6" + ";bend 4 4".repeat(8) + ";pilgrim 9".repeat(4)
+                + ";has 3 4 4;has 3 4 3;heap 7 3 1";
+        HillBends x = Checks.on(text);
+        Bounds.is("bought", x.buy(3, 4), 3);
+        Bounds.is("had", x.pilgrim(3, 9), 8);
+        Bounds.is("sold", x.sell(3, 4), 6);
+        Bounds.is("handed", x.hand(3, 2, 4), 1);
+        Bounds.is("and back", x.hand(2, 3, 4), 7);
+        Bounds.is("bought again", x.buy(3, 4), 0);
+        for (int bend = 0; bend < 8; bend++) {
+            Bounds.is("up", x.climb(3), bend + 1);
+            for (int other = 0; other < 8; other++) {
+                Bounds.is("lying at " + other, x.bend(other, 7), other <= bend ? 1 : 0);
+            }
+        }
+        Bounds.is("at the top", x.count(8), 0b1000);
+        Bounds.is("left", x.pilgrim(3, 2), 8);
+        Bounds.is("taken", x.take(3, 4), 1);
+        Bounds.is("taken of another sort", x.take(3, 3), 1);
+        Bounds.is("down", x.down(3), 7);
+        Bounds.is("taken lower", x.take(3, 4), 2);
+        Bounds.is("taken in all", x.pilgrim(3, 3), 3);
+        Bounds.is("weight", x.pilgrim(3, 4), 5);
+        for (int pilgrim = 0; pilgrim < 3; pilgrim++) {
+            for (int what = 0; what < 10; what++) {
+                Bounds.is("of " + pilgrim + ", " + what, x.pilgrim(pilgrim, what), what == 1 ? 9 : 0);
+            }
+        }
     }
 
     // ---- acts undone

@@ -25,6 +25,7 @@ public final class AskBoundsTests {
         downwardsOfSeveral();
         less();
         rich();
+        theLastOfEach();
         nothingChanges();
         Bounds.close("AskBoundsTests", 18, 27);
     }
@@ -74,6 +75,8 @@ public final class AskBoundsTests {
             Bounds.is("then they have of it", x.reach(0, 0), Math.max(0, had - 8));
             Bounds.is("and of the other", x.reach(0, 1), 2);
         }
+        Bounds.term("REACH of a PILGRIM: how high they come, as BENDS ASK now, with what they have, from where they are; how "
+                + "many of a SORT they have then.");
         HillBends y = climbed(having(EIGHT, 9, 0), 8);
         Bounds.is("at the top", y.reach(0, NONE), 8);
         Bounds.is("with what they have", y.reach(0, 0), 1);
@@ -98,6 +101,8 @@ public final class AskBoundsTests {
             Bounds.is("then of the other", x.lacks(0, 1), 7);
             Bounds.is("then price", x.lacks(0, NONE), 7);
         }
+        Bounds.term("LACKS: what they would have to have more to come to the top, as BENDS ASK now: how many of a SORT; the "
+                + "PRICE of all these.");
         HillBends y = climbed(having(EIGHT, 8, 0), 8);
         Bounds.is("at the top", y.lacks(0, NONE), 0);
         Bounds.is("at the top, of a sort", y.lacks(0, 0), 0);
@@ -119,7 +124,8 @@ public final class AskBoundsTests {
             Bounds.refused("of two, " + pilgrim, Bounds::midway, x -> x.ways(pilgrim), NONE);
         }
         Bounds.is("without a hill", new HillBends().ways(0), NONE);
-        Bounds.term("(FIRST or SECOND, each; 2 to the power of these BENDS; alike ones count as two, too)");
+        Bounds.term("WAYS of a PILGRIM: of all ways in which the BENDS ahead of them can ASK (FIRST or SECOND, each; 2 to the "
+                + "power of these BENDS; alike ones count as two, too) by how many they come to the top.");
         for (int height = 0; height <= 8; height++) {
             Bounds.is("alike ones, from " + height, climbed(having(EIGHT_ALIKE, 8, 0), height).ways(0), 256 >> height);
         }
@@ -145,7 +151,8 @@ public final class AskBoundsTests {
         Bounds.is("at the top, of a sort", top.sure(0, 1), 0);
         Bounds.is("the last bend", climbed(having(EIGHT, 7, 0), 7).sure(0, NONE), 31);
         Bounds.is("no bends", Checks.on("hill 9;pilgrim 0").sure(0, NONE), 0);
-        Bounds.term("the fewest of each SORT (which is how many of the BENDS ahead can ASK for it, less what they have).");
+        Bounds.term("SURE: likewise as LACKS, so that they come up by all these ways: the fewest of each SORT (which is how many "
+                + "of the BENDS ahead can ASK for it, less what they have).");
         Bounds.is("a bend can ask for one twice", Checks.on(EIGHT_ALIKE).sure(0, 0), 8);
         HillBends y = Checks.on(having(EIGHT, 8, 8));
         Bounds.is("enough is sure", y.sure(0, NONE), 0);
@@ -163,6 +170,7 @@ public final class AskBoundsTests {
         for (int sort = 0; sort < due.length - 2; sort++) {
             Bounds.is(what + ": of " + sort, x.bag(0, sort), due[2 + sort]);
         }
+        Bounds.is(what + ": ways, asked again", x.bag(0, NONE), due[0]);
         for (int sort = 0; sort < due.length - 2; sort++) {
             for (int n = 0; n < due[2 + sort]; n++) {
                 Bounds.is(what + ": it can be bought", x.buy(0, sort) >= 0 ? 1 : 0, 1);
@@ -183,8 +191,13 @@ public final class AskBoundsTests {
         bag("all are had", "hill 8;sort 2 1 1" + three + "9;has 0 0 3", 8, 0, 0);
         bag("another is had", "hill 9;sort 2 1 1;sort 3 1 1" + three + "9;has 0 1 1", 8, 3, 3, 0);
         bag("another is too heavy", "hill 8;sort 2 1 1;sort 3 1 1" + three + "9;has 0 1 1", 0, 0, 0, 0);
-        Bounds.term("how many of each SORT to BUY (0 to 3 each), so that it can be, one behind the other,");
+        Bounds.term("BAG of a PILGRIM at the foot: how many of each SORT to BUY (0 to 3 each), so that it can be, one behind the "
+                + "other,");
         bag("a fourth", "hill 9;sort 1 1 1;bend 0 0" + three + "99", 0, 0, 0);
+        String second = "hill 9;sort 1 1 1;sort 1 1 1;bend 1 1;bend 1 1;bend 1 1;bend 1 1;pilgrim 9";
+        bag("a fourth of the second", second, 0, 0, 0, 0);
+        bag("eight of the second", second.replace(";pilgrim", ";bend 1 1".repeat(4) + ";pilgrim"), 0, 0, 0, 0);
+        bag("a fourth of the second is had", second + ";has 0 1 1", 16, 3, 0, 3);
         bag("a fourth is had", "hill 9;sort 1 1 1;bend 0 0" + three + "99;has 0 0 1", 16, 3, 3);
         bag("three of each of two", "hill 9;sort 1 1 1;sort 1 1 2" + three.replace("0 0", "0 1") + "99", 8, 9, 3, 3);
         bag("two sorts and two more", "hill 9;sort 1 1 1;sort 1 1 1;sort 1 1 1;bend 1 1;bend 1 1;bend 1 1;bend 2 2;bend 2 2"
@@ -198,7 +211,8 @@ public final class AskBoundsTests {
     }
 
     private static void bagOfSeveral() {
-        Bounds.term("and WAYS are most then; of several the least PRICE, then the first row (by SORTS, how many, the first SORT first)");
+        Bounds.term("and WAYS are most then; of several the least PRICE, then the first row (by SORTS, how many, the first SORT "
+                + "first): WAYS; PRICE; of a SORT.");
         String two = ";bend 0 1;bend 0 1;pilgrim ";
         bag("one thing brings nobody up two", "hill 9;sort 1 1 1;sort 1 1 1" + two + "1", 0, 0, 0, 0);
         bag("two", "hill 9;sort 1 1 1;sort 1 1 1" + two + "2", 2, 2, 1, 1);
@@ -248,7 +262,8 @@ public final class AskBoundsTests {
             Bounds.refused("of two, " + other, Checks::onSmall, x -> x.both(other, 0), NONE);
         }
         Bounds.is("without a hill", new HillBends().both(0, 1), NONE);
-        Bounds.term("if they HAND things as they like (what one can carry is not asked): the BENDS ASK the same of both.");
+        Bounds.term("BOTH of two PILGRIMS of the same HEIGHT: by how many WAYS both come to the top, if they HAND things as they "
+                + "like (what one can carry is not asked): the BENDS ASK the same of both.");
         String unlike = ";sort 1 1 1;sort 1 1 1;bend 0 1;pilgrim 0;pilgrim 0;";
         Bounds.is("nobody could carry more", Checks.on("hill 2" + unlike + "has 0 0 2;has 1 1 2").both(0, 1), 2);
         Bounds.is("of each sort one", Checks.on("hill 2" + unlike + "has 0 0 1;has 1 1 1").both(0, 1), 0);
@@ -268,6 +283,8 @@ public final class AskBoundsTests {
         Bounds.refused("others are lower", Bounds::midway, x -> x.partner(0, 1), -2);
         Bounds.refused("others are higher", Bounds::midway, x -> x.partner(1, 0), -2);
         Bounds.refused("others are higher", Bounds::midway, x -> x.partner(1, 1), -2);
+        Bounds.term("PARTNER of a PILGRIM: who it is best to go with so (of the same HEIGHT): most of BOTH, of several the "
+                + "least; how many.");
         HillBends x = Checks.on("hill 9;sort 1 1 1;bend 0 0;pilgrim 0;pilgrim 0;pilgrim 0;pilgrim 0;has 1 0 1;has 3 0 1");
         int[] who = {1, 3, 0, 1};
         int[] many = {0, 2, 0, 2};
@@ -319,7 +336,8 @@ public final class AskBoundsTests {
     }
 
     private static void downwardsAsActsLet() {
-        Bounds.term("(how many of each SORT there are in these, LEFT more than TAKEN, what they can carry), so that WORTH is most;");
+        Bounds.term("DOWNWARDS of a PILGRIM: what to TAKE from all heaps of BENDS below them, coming down, as ACTS let (how many "
+                + "of each SORT there are in these, LEFT more than TAKEN, what they can carry), so that WORTH is most;");
         String text = "hill 20;sort 1 0 1;sort 1 5 1;bend 0 0;bend 0 0;bend 0 0;pilgrim 0;has 0 0 4;heap 0 1 1;heap 1 1 9";
         HillBends x = climbed(text, 2);
         downwards("two were left", x, 10, 0, 2);
@@ -340,6 +358,11 @@ public final class AskBoundsTests {
         downwards("nine are had", climbed(nine + "4;has 0 1 1", 3), 0, 0, 0);
         String eight = "hill 40;sort 1 0 1;sort 2 30 1" + ";bend 0 0".repeat(8) + ";pilgrim 0;has 0 0 4;has 0 0 4;heap 0 1 4;heap 7 1 4";
         downwards("eight", climbed(eight, 8), 240, 0, 8);
+        String worthy = "hill 9;sort 1 1 1;bend 0 0;pilgrim 0;has 0 0 2;heap 0 0 3";
+        HillBends y = climbed(worthy, 1);
+        downwards("of the least worth", y, 1, 1);
+        y.down(0);
+        downwards("none at the foot, though asked above", y, 0, 0);
     }
 
     private static void downwardsOfSeveral() {
@@ -351,6 +374,12 @@ public final class AskBoundsTests {
         downwards("the fewest, of no worth none", climbed(ahead + ";heap 0 1 0;heap 0 2 1", 2), 4, 0, 0, 1, 0);
         String few = "hill 5;sort 1 0 1;sort 2 6 1;sort 4 12 1;bend 0 0;bend 0 0;pilgrim 0;has 0 0 2;heap 0 1 2;heap 0 2 1";
         downwards("one instead of two", climbed(few, 2), 12, 0, 0, 1);
+        String early = "hill 5;sort 4 12 1;sort 2 6 1;sort 1 0 1;bend 2 2;bend 2 2;pilgrim 0;has 0 2 2;heap 0 0 1;heap 0 1 2";
+        downwards("one instead of two, though their row is the first", climbed(early, 2), 12, 1, 0, 0);
+        String room = "hill 5;sort 3 5 1;sort 3 5 1;sort 1 0 1;bend 2 2;bend 2 2;pilgrim 0;has 0 2 2;heap 0 0 1;heap 0 1 1";
+        downwards("the first row, with room for no other", climbed(room, 2), 5, 0, 1, 0);
+        String behind = "hill 5;sort 1 0 1;sort 3 5 1;sort 3 5 1;bend 0 0;bend 0 0;pilgrim 0;has 0 0 2;heap 0 1 1;heap 0 2 1";
+        downwards("the first row of the last two, with room for no other", climbed(behind, 2), 5, 0, 0, 1);
         downwards("two, if they are worth more", climbed(few.replace("sort 2 6 1", "sort 2 7 1"), 2), 14, 0, 2, 0);
         downwards("two, one of them light", climbed(few.replace("hill 5", "hill 6"), 2), 18, 0, 1, 1);
     }
@@ -372,6 +401,8 @@ public final class AskBoundsTests {
         Bounds.is("at the top", y.less(0, 1), -2);
         Bounds.is("no bends", Checks.on("hill 9;pilgrim 0").less(0, 0), -2);
         Bounds.is("no bends", Checks.on("hill 9;pilgrim 0").less(0, 1), -2);
+        Bounds.term("LESS: the BEND ahead of a PILGRIM without which WAYS would be most for them, of 2 to the power of those "
+                + "that are left; of several the least; how many.");
         String text = "hill 9;sort 1 1 1;sort 1 1 1;bend 0 0;bend 0 0;bend 1 1;pilgrim 0;has 0 0 2";
         Bounds.is("the highest", Checks.on(text).less(0, 0), 2);
         Bounds.is("four ways", Checks.on(text).less(0, 1), 4);
@@ -395,6 +426,7 @@ public final class AskBoundsTests {
         Bounds.is("nobody", Checks.on("hill 9;sort 1 1 1").rich(1), -2);
         Bounds.is("nothing is had", Checks.on("hill 9;pilgrim 0;pilgrim 0").rich(0), 0);
         Bounds.is("nothing is had", Checks.on("hill 9;pilgrim 0;pilgrim 0").rich(1), 0);
+        Bounds.term("RICH: whose things are WORTH most with MONEY; of several the least; how much.");
         HillBends x = Checks.on("hill 9;sort 1 30 1;sort 1 0 30;pilgrim 29;pilgrim 0;pilgrim 30;pilgrim 0;has 1 0 1;has 3 1 4");
         Bounds.is("of several the least", x.rich(0), 1);
         Bounds.is("by worth, not by price", x.rich(1), 30);
@@ -408,6 +440,47 @@ public final class AskBoundsTests {
         }
         Bounds.refused("without a hill", HillBends::new, y -> y.rich(0), NONE);
         Bounds.refused("without a hill", HillBends::new, y -> y.rich(1), NONE);
+    }
+
+    /** Pilgrim 3 of four and sort 4 of five are asked for like the first ones. */
+    private static void theLastOfEach() {
+        Bounds.term("SORTS 0 to 4, BENDS 0 to 7, PILGRIMS 0 to 3, in the order told;");
+        String text = "hill 40;sort 1 1 1;sort 1 1 2;sort 1 1 3;sort 1 1 4;sort 1 7 5" + ";bend 4 0".repeat(4)
+                + ";pilgrim 0;pilgrim 1;pilgrim 2;pilgrim 99;has 0 4 4;has 0 4 4;has 3 4 3;has 3 0 1;heap 0 4 2";
+        HillBends x = Checks.on(text);
+        Bounds.is("reach", x.reach(3, NONE), 3);
+        Bounds.is("then they have", x.reach(3, 4), 0);
+        Bounds.is("lacks", x.lacks(3, 4), 1);
+        Bounds.is("lacks, price", x.lacks(3, NONE), 5);
+        Bounds.is("ways", x.ways(3), 4);
+        Bounds.is("sure", x.sure(3, 4), 1);
+        Bounds.is("sure, price", x.sure(3, NONE), 8);
+        Bounds.is("bag, ways", x.bag(3, NONE), 16);
+        Bounds.is("bag, price", x.bag(3, -2), 8);
+        Bounds.is("bag, of 4", x.bag(3, 4), 1);
+        Bounds.is("bag, of 3", x.bag(3, 3), 0);
+        Bounds.is("bag, of 0", x.bag(3, 0), 3);
+        Bounds.is("both", x.both(3, 0), 1);
+        Bounds.is("partner", x.partner(3, 0), 0);
+        Bounds.is("less", x.less(3, 0), 0);
+        Bounds.is("less, ways", x.less(3, 1), 4);
+        Bounds.is("rich", x.rich(0), 3);
+        Bounds.is("how much", x.rich(1), 121);
+        x.climb(3);
+        x.climb(3);
+        Bounds.is("downwards", x.downwards(3, NONE), 14);
+        Bounds.is("downwards, of 4", x.downwards(3, 4), 2);
+        Bounds.is("downwards, of 0", x.downwards(3, 0), 0);
+        String all = "hill 40" + ";sort 1 2 3".repeat(5) + ";bend 0 0;bend 1 1;bend 2 2;bend 3 3;bend 4 4;pilgrim 99"
+                + ";has 0 0 1;has 0 1 1;has 0 2 1;has 0 3 1;has 0 4 1";
+        HillBends y = Checks.on(all);
+        Bounds.is("with one of each", y.reach(0, NONE), 5);
+        Bounds.is("nothing is lacking", y.lacks(0, NONE), 0);
+        Bounds.is("all is worth", y.rich(1), 109);
+        for (int i = 0; i < 5; i++) {
+            y.climb(0);
+        }
+        downwards("one of each", y, 10, 1, 1, 1, 1, 1);
     }
 
     private static void nothingChanges() {

@@ -165,6 +165,7 @@ public final class HillBoundsTests {
         Bounds.is("sorts", x.count(1), 1);
         Bounds.is("none", fed(20).end(0), 0);
         Bounds.is("all of the most", fed(400).end(400), 400);
+        bytesBehindTheEnd();
         Bounds.promise(3, "NONE, and nothing happens, if it has not so many, or n is below 0.");
         for (int n : new int[] {21, 40, 400, 401, FAR, -1, -20, FAR_BELOW}) {
             Bounds.refused("20 bytes, end(" + n + ")", () -> fed(20), y -> y.end(n), NONE);
@@ -176,6 +177,28 @@ public final class HillBoundsTests {
             y.end(6);
             return y;
         }, y -> y.end(7), NONE);
+    }
+
+    /** What is cut off is not read, though it would go on with a word, a number or a sign. */
+    private static void bytesBehindTheEnd() {
+        HillBends x = new HillBends();
+        Checks.tell(x, "hill 39");
+        x.end(6);
+        Bounds.is("a number that was cut", x.hill(), 0);
+        Bounds.is("burden", x.count(0), 3);
+        Checks.tell(x, "hill 3;sort 1 1 1");
+        x.end(6);
+        Bounds.is("clauses that were cut", x.hill(), 0);
+        Bounds.is("sorts", x.count(1), 0);
+        Checks.tell(x, "ask bends");
+        x.end(8);
+        Bounds.is("a word that was cut", x.rule(), 0);
+        Checks.tell(x, "ask 1 if 1 <= 1");
+        x.end(12);
+        Bounds.is("a sign that was cut", x.rule(), fault(12, 0));
+        Checks.tell(x, "ask 12");
+        x.end(4);
+        Bounds.is("a number that was cut off", x.rule(), fault(4, 0));
     }
 
     private static void hill() {
@@ -199,7 +222,8 @@ public final class HillBoundsTests {
     }
 
     private static void hillInPlace() {
-        Bounds.promise(4, "(NIGHT 0, no NOTES, nothing told to be left, nothing to be UNDONE; the RULE IN FORCE and x stay): how many BENDS;");
+        Bounds.promise(4, "(NIGHT 0, no NOTES, nothing told to be left, nothing to be UNDONE; the RULE IN FORCE and x stay): how "
+                + "many BENDS;");
         HillBends x = Bounds.midway();
         x.end(0);
         Bounds.is("the same text", Checks.hill(x, Checks.SMALL), 3);
@@ -218,6 +242,13 @@ public final class HillBoundsTests {
         Bounds.is("asked", x.count(7), 0);
         Bounds.is("an image stays", x.back(1), 0);
         Bounds.is("as it was made", x.pilgrim(0, 1), 19);
+        HillBends y = Checks.on("hill 9;sort 1 1 1;sort 1 1 1;bend 0 1;heap 0 0 1");
+        Checks.rule(y, "ask ones");
+        y.note(1, 0, 0);
+        Bounds.is("by what lies there", y.ruled(1), 0);
+        Checks.hill(y, "hill 9;sort 1 1 1;sort 1 1 1;bend 0 1");
+        y.note(1, 0, 0);
+        Bounds.is("by what lies there now", y.ruled(1), -2);
     }
 
     private static void hillFault() {
@@ -270,7 +301,18 @@ public final class HillBoundsTests {
             Bounds.is("no rule", x.count(4), 0);
             Bounds.is("none such", x.force(0), -2);
         }
-        Bounds.is("the first rule behind faults", Checks.rule(x, "ask 1"), 0);
+        String sixty = "ask 1" + "-1".repeat(59);
+        for (int i = 0; i < 9; i++) {
+            Bounds.is("one value too many", Checks.rule(x, sixty + "+1"), fault(sixty.length() + 1, 3));
+            Bounds.is("one clause too many", Checks.rule(x, texts[4]), faults[4]);
+        }
+        Bounds.is("the first rule behind faults, as long as can be", Checks.rule(x, sixty.replace('-', '+')), 0);
+        Bounds.is("the second", Checks.rule(x, sixty), 1);
+        Checks.hill(x, Checks.SMALL);
+        x.force(1);
+        Bounds.is("by the second, its sum is below 0", x.night(), 0b101);
+        x.force(0);
+        Bounds.is("by the first, its sum is above 0", x.night(), 0b101);
         HillBends y = Bounds.midway();
         Checks.tell(y, "ask 1 if");
         Bounds.is("all else stays at a fault", y.rule(), fault(8, 0));
@@ -337,6 +379,10 @@ public final class HillBoundsTests {
         Bounds.is("its last byte counts", x.count(7), 0);
         Bounds.hill("hill 9" + " ".repeat(393) + ";", fault(400, 0));
         Bounds.rule("ask 1" + " ".repeat(394) + ";", fault(400, 0));
+        Bounds.hill(" ".repeat(399) + "x", fault(399, 0));
+        Bounds.hill(" ".repeat(400), fault(400, 0));
+        Bounds.rule(" ".repeat(400), fault(400, 0));
+        Bounds.rule("[".repeat(400), fault(0, 0));
     }
 
     /** Forty clauses, in which the fourth pilgrim may have more. */
@@ -365,7 +411,8 @@ public final class HillBoundsTests {
             Bounds.hill(clause, fault(0, 4));
             Bounds.hill("  " + clause + ";hill 9", fault(2, 4));
         }
-        Bounds.term("a sixth SORT, a ninth BEND, a fifth PILGRIM (at its first byte)");
+        Bounds.term("4 one CLAUSE too many, a second hill, another CLAUSE ahead of it, a sixth SORT, a ninth BEND, a fifth "
+                + "PILGRIM (at its first byte)");
         String[] ahead = {"hill 9" + ";sort 1 0 1".repeat(5), "hill 9;sort 1 0 1" + ";bend 0 0".repeat(8), "hill 9" + ";pilgrim 0".repeat(4)};
         String[] one = {"sort 1 0 1", "bend 0 0", "pilgrim 0"};
         int[] bends = {0, 8, 0};
@@ -490,7 +537,7 @@ public final class HillBoundsTests {
     }
 
     private static void digits() {
-        Bounds.term("VALUE: NUMBER (1 to 5 digits, as far as digits go on)");
+        Bounds.term("VALUE: NUMBER (1 to 5 digits, as far as digits go on) | WORD.");
         Bounds.hill("hill 00009", 0);
         Bounds.hill("hill 000009", fault(5, 1));
         Bounds.hill("hill 99999", fault(5, 1));
@@ -529,7 +576,15 @@ public final class HillBoundsTests {
         Bounds.rule("askbend", fault(0, 0));
         Bounds.rule("ask 1 ifbend = 1", fault(6, 0));
         Bounds.rule("ask 1if 1=1and 1=1or 1=1", 0);
-        Bounds.hill("hillx 9", fault(0, 0));
+        for (char letter : new char[] {'a', 'm', 'z'}) {
+            Bounds.hill("hill" + letter + " 9", fault(0, 0));
+            Bounds.rule("ask" + letter + " 1", fault(0, 0));
+            Bounds.rule("ask bend" + letter, fault(4, 0));
+        }
+        for (char sign : new char[] {'`', '{', 'A', 'Z', '_'}) {
+            Bounds.hill("hill" + sign + " 9", fault(4, 0));
+            Bounds.rule("ask bend" + sign, fault(8, 0));
+        }
     }
 
     private static void blanks() {
@@ -577,6 +632,8 @@ public final class HillBoundsTests {
         by(eleven + "ask 1", 255);
         by("ask 1;" + eleven.substring(0, eleven.length() - 1), 255);
         by(eleven + "ask 0", 0);
+        by(eleven + "ask 1 if 0=1", 0);
+        by(eleven + "ask 1 if bend=7", 128);
         HillBends x = new HillBends();
         for (int n = 0; n < 6; n++) {
             Bounds.is("number", Checks.rule(x, "ask 1"), n);
@@ -592,6 +649,7 @@ public final class HillBoundsTests {
         by(ahead + "not ".repeat(9) + "bend=1", 255 - 0b10);
         by(ahead + "not[".repeat(5) + "bend=1" + "]".repeat(5), 255 - 0b10);
         by(ahead + "not ".repeat(10) + "bend=1 and " + "not ".repeat(9) + "bend=2 or " + "[".repeat(10) + "bend=3" + "]".repeat(10), 0b1010);
+        Bounds.term("2 too deep (at the sign that opens, or the word not);");
         Bounds.rule(ahead + "[".repeat(11) + "1=1" + "]".repeat(11), fault(19, 2));
         Bounds.rule(ahead + "not ".repeat(11) + "1=1", fault(49, 2));
         Bounds.rule(ahead + "not ".repeat(10) + "[1=1]", fault(49, 2));
@@ -609,6 +667,7 @@ public final class HillBoundsTests {
         Bounds.rule(sixty, 0);
         by(sixty, 0);
         by("ask 1" + "+1".repeat(59), 255);
+        Bounds.term("3 one VALUE or FACT too many (at its first byte; of a FACT at its SIGN);");
         Bounds.rule(sixty + "+1", fault(behind, 3));
         Bounds.rule(sixty + " + bend", fault(behind + 2, 3));
         Bounds.rule(sixty + ";ask 1", fault(behind + 4, 3));
@@ -629,7 +688,8 @@ public final class HillBoundsTests {
     }
 
     private static void numbersOfRules() {
-        Bounds.term("ASKS for its FIRST, if the SUM of its first CLAUSE without a TEST, or whose TEST holds (0 without), is above 0, else for its SECOND;");
+        Bounds.term("ASKS for its FIRST, if the SUM of its first CLAUSE without a TEST, or whose TEST holds (0 without), is "
+                + "above 0, else for its SECOND;");
         by("ask 1", 255);
         by("ask 0", 0);
         by("ask 0 - 1", 0);
@@ -654,6 +714,21 @@ public final class HillBoundsTests {
         by("ask 1 if 0-bend < 0-3", 0b11110000);
         by("ask 1 if 65536*65536 = 0", 0);
         by("ask 1 if 65536*65536+bend > 65536*65536", 254);
+        by("ask 1 if bend<3", 0b111);
+        by("ask 1 if bend<=3", 0b1111);
+        by("ask 1 if bend=3", 0b1000);
+        by("ask 1 if bend>=3", 0b11111000);
+        by("ask 1 if bend>3", 0b11110000);
+        for (String sign : new String[] {"<", "<=", "=", ">=", ">"}) {
+            Bounds.rule("ask 1 if 1 " + sign, fault(11 + sign.length(), 0));
+            Bounds.rule("ask " + sign + " 1", fault(4, 0));
+            Bounds.rule("ask 1 " + sign + " 1", fault(6, 0));
+            Bounds.rule("ask 1 if " + sign + " 1", fault(9, 0));
+            Bounds.rule("ask 1 if 1 = " + sign, fault(13, 0));
+            Bounds.rule("ask 1 + " + sign, fault(8, 0));
+            Bounds.hill("hill " + sign, fault(5, 0));
+            Bounds.hill("hill 9;sort " + sign + " 1 1", fault(12, 0));
+        }
         Bounds.rule("ask 1 if 1 == 1", fault(12, 0));
         Bounds.rule("ask 1 if 1 =< 1", fault(12, 0));
         Bounds.rule("ask 1 if 1 => 1", fault(12, 0));
@@ -674,6 +749,14 @@ public final class HillBoundsTests {
         by("ask 1 if bend<1 or bend=2 or bend>6", 0b10000101);
         by("ask 1 if bend>0 and bend<7 and not bend=3 and bend>1", 0b01110100);
         by("ask 1 if bend=1 or not bend>2 and not bend=0 or bend=7", 0b10000110);
+        String[] ofThree = {"bend=3", "bend<4", "bend<=3", "not bend<3 and bend<=3", "[bend>=3] and bend<=3", "bend>2"};
+        for (String one : ofThree) {
+            for (String other : ofThree) {
+                by("ask 1 if " + one + " and " + other + " and bend=3", 0b1000);
+                by("ask 1 if bend=3 and " + one + " and " + other + " or bend=7 and " + one + " and bend=3", 0b1000);
+                by("ask 1 if " + one + " and bend>0 and " + other + " and bend>2 and bend<4", 0b1000);
+            }
+        }
         Bounds.rule("ask 1 if", fault(8, 0));
         Bounds.rule("ask 1 if [", fault(10, 0));
         Bounds.rule("ask 1 if []", fault(10, 0));
@@ -764,6 +847,14 @@ public final class HillBoundsTests {
             Bounds.hill("hill " + sign + "9", fault(5, 0));
             Bounds.rule(sign + "ask 1", fault(0, 0));
         }
+        for (int n = 0; n <= 20; n++) {
+            Bounds.rule(n + " 1", fault(0, 0));
+            Bounds.rule("ask 1 " + n + " 1=1", fault(6, 0));
+            Bounds.rule("ask 1 if 1=1 " + n + " 1=1", fault(13, 0));
+            Bounds.rule("ask 1 if [1=1 " + n + " 1=1]", fault(14, 0));
+            Bounds.hill(n + " 1", fault(0, 0));
+            Bounds.hill("hill 9;" + n + " 1 1 1", fault(7, 0));
+        }
         Bounds.rule("ask 1;;ask 1", fault(6, 0));
         Bounds.hill("hill 9;;sort 1 0 1", fault(7, 0));
         Bounds.hill(";hill 9", fault(0, 0));
@@ -782,7 +873,8 @@ public final class HillBoundsTests {
         Bounds.rule("ask 1 if " + "[".repeat(10) + "123456", fault(19, 1));
         Bounds.rule("ask 1" + "+1".repeat(60) + ";ask 1 x", fault(124, 3));
         Bounds.rule("ask 1" + ";ask 1".repeat(12) + "+123456", fault(72, 4));
-        Bounds.term("(of has the number of things, if they would be too many or too heavy)");
+        Bounds.term("1 a NUMBER of more digits, or not as told (of has the number of things, if they would be too many or too "
+                + "heavy);");
         Bounds.hill("hill 1;sort 2 0 1;pilgrim 0;has 0 0 1 x", fault(36, 1));
         Bounds.hill("hill 1;sort 2 0 1;pilgrim 0;has 0 1 1", fault(34, 1));
     }

@@ -22,6 +22,7 @@ public final class ToldBoundsTests {
         seed();
         draws();
         years();
+        yearsOfNights();
         yearsNot();
         count();
         image();
@@ -87,27 +88,40 @@ public final class ToldBoundsTests {
         gifts("five and four things", left(EIGHT, 5, 4), 0, none, none);
         gifts("45 things", left("hill 9" + ";sort 1 1 1".repeat(5) + ";bend 0 0".repeat(8), 9, 9, 9, 9, 9), 0, none, none);
         gifts("two things at one bend", left("hill 9;sort 1 1 1;sort 1 1 1;bend 0 1", 1, 1), 0, none, none);
-        gifts("none any more", left(EIGHT, 0, 0), 1, none, none);
+        HillBends x = left(EIGHT, 8, 0);
+        gifts("eight", x, 1, new int[] {1, 1, 1, 1, 1, 1, 1, 1}, new int[8]);
+        x.leaves(0, 9);
+        gifts("nine", x, 0, none, none);
+        x.leaves(0, 2);
+        gifts("two", x, 1, new int[] {1, 1}, new int[2]);
+        x.leaves(0, 0);
+        gifts("none any more", x, 1, none, none);
     }
 
     private static void giftsOfRows() {
         int three = 0b11;
-        Bounds.promise(29, "10 to 17: what the BEND less 10 had by the first row (no row, or the BEND had nothing: -2).");
+        Bounds.promise(29, "GIFTS what NONE: how many rows, 0 to 7: what that BEND can have had, as bits, 10 to 17: what the "
+                + "BEND less 10 had by the first row (no row, or the BEND had nothing: -2).");
         gifts("four and four", left(EIGHT, 4, 4), 70, new int[] {three, three, three, three, three, three, three, three},
                 new int[] {0, 0, 0, 0, 1, 1, 1, 1});
         gifts("seven and one", left(EIGHT, 7, 1), 8, new int[] {three, three, three, three, three, three, three, three},
                 new int[] {0, 0, 0, 0, 0, 0, 0, 1});
         gifts("the lowest bends alone", left(EIGHT, 1, 1), 2, new int[] {three, three}, new int[] {0, 1});
         gifts("one", left(EIGHT, 0, 1), 1, new int[] {0b10}, new int[] {1});
+        Bounds.term("GIFTS: a monk left so many of each SORT, as is TOLD (LEAVES: of a SORT so many, 0 to 9; 0 each at first), "
+                + "one at each BEND, "
+                + "from BEND 0 on, as many BENDS as things: rows of what each of these had, its FIRST or its SECOND");
         gifts("no bend asks for it", left("hill 9;sort 1 1 1;sort 1 1 1;bend 0 0;bend 0 0", 1, 1), 0, new int[0], new int[0]);
         String text = "hill 9;sort 1 1 1;sort 1 1 1;sort 1 1 1;bend 2 1;bend 1 0;bend 0 2";
         gifts("first ahead of second, whatever their numbers", left(text, 1, 1, 1), 2, new int[] {0b110, 0b011, 0b101}, new int[] {2, 1, 0});
         gifts("by the second alone", left(text, 0, 1, 1), 1, new int[] {0b100, 0b10}, new int[] {2, 1});
         gifts("a first that leads nowhere", left(text, 1, 2, 0), 1, new int[] {0b10, 0b10, 0b1}, new int[] {1, 1, 0});
-        Bounds.term("(one alike for both counts once)");
+        Bounds.term("(one alike for both counts once): how many rows; what a BEND can have had, as bits of SORTS; "
+                + "what it had by the first row (FIRST ahead of SECOND, the lowest BEND first).");
         gifts("alike ones", left("hill 9;sort 1 1 1" + ";bend 0 0".repeat(8), 8), 1, new int[] {1, 1, 1, 1, 1, 1, 1, 1}, new int[8]);
         gifts("one alike of two", left("hill 9;sort 1 1 1;sort 1 1 1;bend 0 0;bend 0 1", 1, 1), 1, new int[] {1, 2}, new int[] {0, 1});
-        gifts("one alike of three", left("hill 9;sort 1 1 1;sort 1 1 1;bend 0 1;bend 0 0;bend 0 1", 2, 1), 2, new int[] {3, 1, 3}, new int[] {0, 0, 1});
+        gifts("one alike of three", left("hill 9;sort 1 1 1;sort 1 1 1;bend 0 1;bend 0 0;bend 0 1", 2, 1), 2,
+                new int[] {3, 1, 3}, new int[] {0, 0, 1});
     }
 
     private static void giftsNot() {
@@ -239,7 +253,8 @@ public final class ToldBoundsTests {
         ruled("nine that tell nothing", y, 2, NONE);
         y.note(1, 0, 0);
         ruled("the tenth does", y, 1, 0);
-        Bounds.term("so that from the begin on, all as the text told it (nobody climbs), all NOTES are so: how many;");
+        Bounds.term("RULED: which of the RULES, and of none, so that from the begin on, all as the text told it (nobody climbs), "
+                + "all NOTES are so: how many; the first (none ahead of 0, told as NONE).");
         HillBends z = Checks.on(EIGHT + ";has 0 0 4;heap 0 0 2");
         Checks.rule(z, "ask ones - 1");
         Checks.rule(z, "ask here - 1");
@@ -261,12 +276,15 @@ public final class ToldBoundsTests {
     }
 
     private static void look() {
-        Bounds.promise(32, "LOOK at the n-th NIGHT (0 to 60) what 0: the BEND, 1: how many; -2: no RULE is so, or there are no BENDS.");
+        Bounds.promise(32, "LOOK at the n-th NIGHT (0 to 60) what 0: the BEND, 1: how many; -2: no RULE is so, or there are no "
+                + "BENDS.");
         look("at the begin all are alike", onSixRules(), 0, 0, 7);
         look("3 of 7 part from 4", onSixRules(), 1, 3, 4);
         look("an even night", onSixRules(), 2, 2, 4);
         look("the last night", onSixRules(), 60, 2, 4);
         look("the last but one", onSixRules(), 59, 3, 4);
+        Bounds.term("LOOK at the n-th NIGHT: the BEND by what it ASKS for these part best: the most alike are fewest, of several "
+                + "the least; how many.");
         HillBends x = onSixRules();
         x.note(1, 6, 0);
         x.note(1, 4, 1);
@@ -351,7 +369,8 @@ public final class ToldBoundsTests {
     }
 
     private static void draws() {
-        Bounds.term("DRAWS: x (0 to 2147483647; 0 at first) becomes x * 1103515245 + 12345, of 2147483648 the rest; a DRAW is x / 65536.");
+        Bounds.term("DRAWS: x (0 to 2147483647; 0 at first) becomes x * 1103515245 + 12345, of 2147483648 the rest; a DRAW is x "
+                + "/ 65536.");
         for (int seed : new int[] {0, 1, 65535, 65536, 1073741824, FAR - 1, FAR}) {
             HillBends x = Checks.on(drawing(2, 8, 9));
             x.seed(seed);
@@ -366,6 +385,7 @@ public final class ToldBoundsTests {
 
     private static void years() {
         Bounds.promise(34, "YEARS what 0: HEIGHTS, 1: things.");
+        Bounds.term("YEARS m times (1 to 10) n NIGHTS (1 to 60) from now on:");
         int[][] rows = {{1, 1}, {10, 1}, {1, 60}, {10, 60}, {9, 59}, {2, 2}};
         int[][] hills = {{1, 1, 9}, {4, 8, 9}, {3, 8, 0}, {2, 0, 4}, {4, 2, 3}, {1, 8, 1}};
         for (int[] hill : hills) {
@@ -378,9 +398,54 @@ public final class ToldBoundsTests {
         }
         Bounds.is("nobody", Checks.on("hill 9;sort 1 1 1;bend 0 0").years(10, 60, 0), 0);
         Bounds.is("nobody", Checks.on("hill 9;sort 1 1 1;bend 0 0").years(10, 60, 1), 0);
-        Bounds.term("(nothing stays; x as it was)");
+        Bounds.term("HEIGHTS at the end; things LEFT, all together (nothing stays; x as it was).");
         Bounds.unchanged("the least", Bounds::midway, x -> x.years(1, 1, 1));
         Bounds.unchanged("the most", Bounds::midway, x -> x.years(10, 60, 1));
+    }
+
+    /** One pilgrim, at bends that ask for sort 0 in nights of which a number has no rest, else for sort 1. */
+    private static int[] drawnAtNights(int seed, int firstNight, int number, int n) {
+        long x = seed;
+        int height = 0;
+        int[] has = {4, 4};
+        int things = 0;
+        for (int night = firstNight; night < firstNight + n; night++) {
+            x = (x * 1103515245L + 12345L) % 2147483648L;
+            int asked = night % number == 0 ? 0 : 1;
+            if (x / 65536 % 4 == 0) {
+                height = Math.max(0, height - 1);
+            } else if (height < 8 && has[asked] > 0) {
+                height++;
+                has[asked]--;
+                things++;
+            }
+        }
+        return new int[] {height, things};
+    }
+
+    private static void yearsOfNights() {
+        Bounds.term("ahead of each, of each PILGRIM, by numbers, a DRAW mod 4: 0: they go DOWN, if they can; else they CLIMB, if "
+                + "they can; then the NIGHT:");
+        for (int seed = 0; seed < 20; seed++) {
+            HillBends x = Checks.on(EIGHT + ";has 0 0 4;has 0 1 4");
+            x.seed(seed);
+            Checks.rule(x, "ask 1 if night % 3 = 2");
+            for (int n = 1; n <= 12; n++) {
+                x.force(NONE);
+                int[] due = drawnAtNights(seed, 0, 2, n);
+                Bounds.is("without a rule, heights from " + seed + " by " + n, x.years(1, n, 0), due[0]);
+                Bounds.is("without a rule, things from " + seed + " by " + n, x.years(1, n, 1), due[1]);
+                x.force(0);
+                int[] ruled = drawnAtNights(seed, 0, 3, n);
+                Bounds.is("by a rule, heights from " + seed + " by " + n, x.years(1, n, 0), ruled[0]);
+                Bounds.is("by a rule, things from " + seed + " by " + n, x.years(1, n, 1), ruled[1]);
+            }
+            x.night();
+            x.night();
+            x.night();
+            x.night();
+            Bounds.is("from now on, heights from " + seed, x.years(1, 9, 0), drawnAtNights(seed, 4, 3, 9)[0]);
+        }
     }
 
     private static void yearsNot() {
@@ -407,7 +472,10 @@ public final class ToldBoundsTests {
     }
 
     private static void count() {
-        Bounds.promise(35, "7: BENDS that ASK for their SECOND and not their FIRST (which is another SORT), as bits, 8: who is at the top, as bits,");
+        Bounds.promise(35, "What 0: BURDEN, 1: SORTS, 2: BENDS, 3: PILGRIMS, 4: RULES, 5: the RULE IN FORCE (NONE), 6: NIGHT, 7: "
+                + "BENDS that ASK for their SECOND and not their FIRST (which is another SORT), as bits, 8: who is at the top, "
+                + "as bits, "
+                + "9: things that lie in heaps, 10: NOTES, 11: ACTS that can be UNDONE, 12: x, 13: bytes of the TAPE.");
         count("nothing", new HillBends(), 0, 0, 0, 0, 0, NONE, 0, 0, 0, 0, 0, 0, 0, 0);
         count("the least hill", Checks.on("hill 1"), 1, 0, 0, 0, 0, NONE, 0, 0, 0, 0, 0, 0, 0, 0);
         HillBends x = Checks.on("hill 40" + ";sort 1 1 1".repeat(5) + ";bend 0 1".repeat(7) + ";bend 1 1" + ";pilgrim 0".repeat(4)
@@ -524,6 +592,7 @@ public final class ToldBoundsTests {
         Bounds.is("the tape is a hill", x.hill(), 1);
         Bounds.is("from another hill", x.back(1), 0);
         Bounds.is("bends", x.count(2), 3);
+        backToNotes();
         HillBends y = new HillBends();
         y.seed(3);
         y.image(3);
@@ -533,6 +602,30 @@ public final class ToldBoundsTests {
         Bounds.is("to no hill", y.back(3), 0);
         count("no hill", y, 0, 0, 0, 0, 0, NONE, 0, 0, 0, 0, 0, 0, 3, 0);
         Bounds.is("no hill", y.night(), NONE);
+    }
+
+    private static void backToNotes() {
+        HillBends x = onSixRules();
+        x.note(1, 5, 0);
+        x.note(1, 4, 1);
+        x.image(2);
+        ruled("4 alone", x, 1, 4);
+        x.note(NONE, 0, 0);
+        x.note(2, 3, 0);
+        x.note(0, 2, 0);
+        x.note(1, 3, 0);
+        ruled("others", x, 3, 0);
+        x.back(2);
+        ruled("4 alone again", x, 1, 4);
+        x.note(1, 4, 0);
+        ruled("none", x, 0, -2);
+        x.back(2);
+        ruled("4 alone once more", x, 1, 4);
+        Checks.hill(x, "hill 9;sort 1 1 1;sort 1 1 1;bend 1 0;bend 0 1");
+        x.note(1, 0, 0);
+        ruled("on another hill", x, 7, NONE);
+        x.back(2);
+        ruled("and back", x, 1, 4);
     }
 
     private static void backIsRefused() {
