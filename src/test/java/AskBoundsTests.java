@@ -22,6 +22,7 @@ public final class AskBoundsTests {
         partner();
         downwards();
         downwardsAsActsLet();
+        downwardsOfAllThatCanBeCarried();
         downwardsOfSeveral();
         less();
         rich();
@@ -363,6 +364,29 @@ public final class AskBoundsTests {
         downwards("of the least worth", y, 1, 1);
         y.down(0);
         downwards("none at the foot, though asked above", y, 0, 0);
+    }
+
+    /** Somebody with nothing, just above a bend with nine of each sort, has left so many things there. */
+    private static HillBends havingLeft(int many) {
+        HillBends x = Checks.on("hill 40;sort 1 30 1;sort 1 29 1;sort 1 28 1;sort 1 27 1;sort 1 26 1;bend 0 0;pilgrim 99"
+                + ";heap 0 0 9;heap 0 1 9;heap 0 2 9;heap 0 3 9;heap 0 4 9");
+        for (int n = 1; n <= many; n++) {
+            x.buy(0, 0);
+            x.climb(0);
+            if (n < many) {
+                x.down(0);
+            }
+        }
+        return x;
+    }
+
+    private static void downwardsOfAllThatCanBeCarried() {
+        Bounds.term("LEFT more than TAKEN, what they can carry), so that WORTH is most;");
+        downwards("39 were left", havingLeft(39), 9 * 114 + 3 * 26, 9, 9, 9, 9, 3);
+        downwards("40 were left", havingLeft(40), 9 * 114 + 4 * 26, 9, 9, 9, 9, 4);
+        downwards("41 were left", havingLeft(41), 9 * 114 + 4 * 26, 9, 9, 9, 9, 4);
+        downwards("nine of a sort", havingLeft(9), 9 * 30, 9, 0, 0, 0, 0);
+        downwards("ten", havingLeft(10), 9 * 30 + 29, 9, 1, 0, 0, 0);
     }
 
     private static void downwardsOfSeveral() {
