@@ -575,15 +575,23 @@ public final class ActBoundsTests {
     }
 
     private static void undoEachAct() {
+        Bounds.term("ACTS: a NIGHT;");
+        HillBends x = Checks.onSmall();
+        Bounds.is("no act yet", x.count(11), 0);
+        x.night();
+        Bounds.is("a night is one", x.count(11), 1);
+        Bounds.is("and is undone", x.undo(), 0);
+        Bounds.is("night 0 again", x.count(6), 0);
+        Bounds.is("asked as at first", x.count(7), 0);
         Bounds.promise(17, "The last ACT is UNDONE");
-        Bounds.refused("a night", Bounds::midway, x -> x.night() < 0 ? NONE : x.undo(), 3);
-        Bounds.refused("a climb", Bounds::midway, x -> x.climb(1) < 0 ? NONE : x.undo(), 3);
-        Bounds.refused("a way down", Bounds::midway, x -> x.down(0) < 0 ? NONE : x.undo(), 3);
-        Bounds.refused("a thing taken", Bounds::midway, x -> x.take(0, 0) < 0 ? NONE : x.undo(), 3);
-        Bounds.refused("a purchase", Bounds::midway, x -> x.buy(1, 2) < 0 ? NONE : x.undo(), 3);
-        Bounds.refused("a sale", Bounds::midway, x -> x.sell(1, 2) < 0 ? NONE : x.undo(), 3);
-        Bounds.refused("a thing handed", Checks::onSmall, x -> x.hand(0, 1, 0) < 0 ? NONE : x.undo(), 0);
-        Bounds.refused("a thing that was lost", ActBoundsTests::onFullHeap, x -> x.climb(0) < 0 ? NONE : x.undo(), 19);
+        Bounds.refused("a night", Bounds::midway, y -> y.night() < 0 ? NONE : y.undo(), 3);
+        Bounds.refused("a climb", Bounds::midway, y -> y.climb(1) < 0 ? NONE : y.undo(), 3);
+        Bounds.refused("a way down", Bounds::midway, y -> y.down(0) < 0 ? NONE : y.undo(), 3);
+        Bounds.refused("a thing taken", Bounds::midway, y -> y.take(0, 0) < 0 ? NONE : y.undo(), 3);
+        Bounds.refused("a purchase", Bounds::midway, y -> y.buy(1, 2) < 0 ? NONE : y.undo(), 3);
+        Bounds.refused("a sale", Bounds::midway, y -> y.sell(1, 2) < 0 ? NONE : y.undo(), 3);
+        Bounds.refused("a thing handed", Checks::onSmall, y -> y.hand(0, 1, 0) < 0 ? NONE : y.undo(), 0);
+        Bounds.refused("a thing that was lost", ActBoundsTests::onFullHeap, y -> y.climb(0) < 0 ? NONE : y.undo(), 19);
     }
 
     /** A heap of 99, below which somebody has one more; nineteen acts can be undone. */

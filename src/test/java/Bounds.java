@@ -1,4 +1,5 @@
 import java.io.IOException;
+import java.io.UncheckedIOException;
 import java.nio.file.Files;
 import java.nio.file.Path;
 import java.util.ArrayList;
@@ -6,8 +7,9 @@ import java.util.List;
 import java.util.TreeSet;
 
 /**
- * Tests of sentences that name a boundary case: each is quoted ahead of its checks, and must stand in the document as
- * it is quoted. A refused call is made on one of two objects with the same past; then both must answer alike.
+ * Tests of sentences: each is quoted ahead of its checks, and must stand in the document as it is quoted; a quote
+ * without a check is a failure. A refused call is made on one of two objects with the same past; then both must answer
+ * alike.
  */
 final class Bounds {
     /** Makes an object with a past, the same one at each call. */
@@ -23,44 +25,77 @@ final class Bounds {
     private static final Path DOCUMENT = Path.of("../shared/DOC.md");
     private static final TreeSet<Integer> PROMISES = new TreeSet<>();
     private static String sentence = "";
+    private static int checksOfSentence;
 
     private Bounds() {
     }
 
     /** The checks from here on hold a sentence of the document's terms. */
     static void term(String quoted) {
-        sentence = quoted;
-        Checks.holds("stands among the terms: " + quoted, stands("## Terms", quoted));
+        said("Terms", quoted);
     }
 
     /** The checks from here on hold a sentence of a promise. */
     static void promise(int number, String quoted) {
-        sentence = quoted;
         PROMISES.add(number);
-        Checks.holds("stands in promise " + number + ": " + quoted, stands("## Promise " + number + ":", quoted));
+        said("Promise " + number + ":", quoted);
     }
 
-    private static boolean stands(String heading, String quoted) {
-        if (!Files.exists(DOCUMENT)) {
-            return true;
+    /** The checks from here on hold a sentence that stands under a heading with such a begin. */
+    static void said(String heading, String quoted) {
+        endSentence();
+        sentence = quoted;
+        checksOfSentence = 0;
+        if (hasDocument()) {
+            Checks.holds("stands under " + heading + " " + quoted, section(heading).contains(quoted));
         }
+    }
+
+    private static void endSentence() {
+        Checks.holds("a check behind '" + sentence + "'", sentence.isEmpty() || checksOfSentence > 0);
+    }
+
+    /** What the document says under a heading with such a begin. */
+    static String section(String heading) {
+        String text = document();
+        int from = text.indexOf("\n## " + heading);
+        int to = from < 0 ? from : text.indexOf("\n## ", from + 1);
+        return from < 0 ? "" : text.substring(from, to < 0 ? text.length() : to);
+    }
+
+    /** Answers can be held without the document, quotes can't. */
+    static boolean hasDocument() {
+        return Files.exists(DOCUMENT);
+    }
+
+    static String document() {
         try {
-            String text = Files.readString(DOCUMENT);
-            int from = text.indexOf(heading);
-            int to = from < 0 ? from : text.indexOf("\n## ", from);
-            return to >= 0 && text.substring(from, to).contains(quoted);
+            return Files.readString(DOCUMENT);
         } catch (IOException e) {
-            return false;
+            throw new UncheckedIOException("the tests quote " + DOCUMENT, e);
         }
     }
 
     static void is(String what, int got, int due) {
+        checksOfSentence++;
         Checks.is("'" + sentence + "', " + what, got, due);
+    }
+
+    static void holds(String what, boolean is) {
+        is(what, is ? 1 : 0, 1);
     }
 
     static void close(String name, int firstPromise, int lastPromise) {
         for (int n = firstPromise; n <= lastPromise; n++) {
             Checks.holds("a sentence of promise " + n, PROMISES.contains(n));
+        }
+        close(name);
+    }
+
+    static void close(String name) {
+        endSentence();
+        if (!hasDocument()) {
+            System.out.println(name + ": NO QUOTE WAS HELD AGAINST THE DOCUMENT, " + DOCUMENT + " is not there");
         }
         Checks.close(name);
     }

@@ -1,9 +1,11 @@
 import java.util.Random;
 
-/** Runs of calls by seeds, each answer held against the plain model; at most 512 calls on an object. */
+/** Runs of 512 calls by seeds, each answer held against the plain model. */
 public final class ModelTests {
     private static final int RUNS = 1500;
     private static final int CALLS = 512;
+    /** To empty the tape, to feed 400 bytes, to cut, to read. */
+    private static final int CALLS_OF_A_TEXT = 23;
     private static final String[] WORDS = {"bend", "first", "second", "asks", "night", "ones", "twos", "heap", "passed", "here"};
     private static final String[] SIGNS = {"<", "<=", "=", ">=", ">"};
     private static final String STRAY = ";[]+-*/%<=> 0123456789 abdefhiknoprst!A\u0000\u00ff";
@@ -38,16 +40,18 @@ public final class ModelTests {
         if (random.nextInt(30) != 0) {
             tell(hill(), true);
         }
-        while (calls < CALLS - 30) {
+        while (calls < CALLS) {
             int kind = random.nextInt(100);
-            if (kind < 2) {
+            boolean roomForText = calls + CALLS_OF_A_TEXT <= CALLS;
+            if (kind < 2 && roomForText) {
                 tell(hill(), true);
-            } else if (kind < 7) {
+            } else if (kind < 7 && roomForText) {
                 tell(rule(), false);
             } else {
                 call(random.nextInt(37));
             }
         }
+        Checks.is("calls of run " + run, calls, CALLS);
     }
 
     private void answer(int call, String what, int got, int due) {
@@ -277,7 +281,7 @@ public final class ModelTests {
     }
 
     private void act(int call, int p, int s) {
-        int times = 1 + random.nextInt(4);
+        int times = Math.min(CALLS - calls, 1 + random.nextInt(4));
         for (int i = 0; i < times; i++) {
             switch (call) {
                 case 9: answer(9, "night", x.night(), model.night()); break;

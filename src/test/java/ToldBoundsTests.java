@@ -385,6 +385,16 @@ public final class ToldBoundsTests {
 
     private static void years() {
         Bounds.promise(34, "YEARS what 0: HEIGHTS, 1: things.");
+        // Of the draws from 2 on the rests by 4 are 0 1 3, 2 1 3, 0 1 2: three times three nights, each from height 2 on.
+        HillBends two = Checks.on(drawing(1, 8, 9));
+        two.seed(2);
+        two.climb(0);
+        two.climb(0);
+        int[][] byHand = {{1, 1, 1, 0}, {1, 2, 2, 1}, {1, 3, 3, 2}, {2, 3, 3 + 5, 2 + 3}, {3, 3, 3 + 5 + 3, 2 + 3 + 2}};
+        for (int[] row : byHand) {
+            Bounds.is(row[0] + " times " + row[1] + " by hand: heights", two.years(row[0], row[1], 0), row[2]);
+            Bounds.is(row[0] + " times " + row[1] + " by hand: things", two.years(row[0], row[1], 1), row[3]);
+        }
         Bounds.term("YEARS m times (1 to 10) n NIGHTS (1 to 60) from now on:");
         int[][] rows = {{1, 1}, {10, 1}, {1, 60}, {10, 60}, {9, 59}, {2, 2}};
         int[][] hills = {{1, 1, 9}, {4, 8, 9}, {3, 8, 0}, {2, 0, 4}, {4, 2, 3}, {1, 8, 1}};
